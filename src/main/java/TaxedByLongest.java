@@ -21,6 +21,8 @@ public final class TaxedByLongest {
     /** No year earns so little: 20 days are worth -120 at least, 19 changes cost 171 at most. */
     private static final int NO_YEAR = -999;
 
+    private static final int WITHOUT_SIGN = 0x7fffffff;
+
     private static final int MOST_THINGS = 4;
     private static final int MOST_DAYS = 20;
     private static final int MOST_LETTERS = 80;
@@ -30,7 +32,7 @@ public final class TaxedByLongest {
     private static final int MOST_WORTH = 9;
     private static final int MOST_HABIT = 3;
 
-    /** Kinds by their numbers; WORK, 0, is what every other switch falls back to. */
+    /** Kinds by number; WORK is 0 and has no name here, since the others are told by how they differ from it. */
     private static final int REST = 1;
     private static final int STEADY = 2;
     private static final int TIRING = 3;
@@ -826,7 +828,7 @@ public final class TaxedByLongest {
                     done[day] = told.bound[day];
                 } else if (told.things > 0) {
                     z = z * 1664525 + 1013904223;
-                    done[day] = (z & Integer.MAX_VALUE) / 256 % told.things;
+                    done[day] = (z & WITHOUT_SIGN) / 256 % told.things;
                 }
             }
             return z;
