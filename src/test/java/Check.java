@@ -1,62 +1,70 @@
-/** What the tests share: answers against those that are due, and letters told as a text. */
-final class Check {
-    private int looked = 0;
-    private int wrong = 0;
+import java.lang.reflect.InvocationTargetException;
+import java.lang.reflect.Method;
+import java.util.ArrayList;
+import java.util.Comparator;
+import java.util.List;
 
-    void due(String what, long got, long want) {
+/** Answers against those that are due; a test class is one process, so what is counted is static. */
+final class Check {
+    private static final int MOST_TOLD = 40;
+    private static int looked = 0;
+    private static int wrong = 0;
+    private static String test = "";
+
+    private Check() {
+    }
+
+    static void due(String what, Object got, Object want) {
         looked++;
-        if (got != want) {
+        if (!got.equals(want)) {
             wrong++;
-            if (wrong <= 40) {
-                System.out.println(what + " answered " + got + ", due is " + want);
+            if (wrong <= MOST_TOLD) {
+                System.out.println(test + what + " answered " + got + ", due is " + want);
             }
         }
     }
 
-    void holds(String what, boolean isSo) {
-        due(what, isSo ? 1 : 0, 1);
+    static void holds(String what, boolean isSo) {
+        due(what, isSo, true);
     }
 
-    boolean isFaultless() {
+    static boolean isFaultless() {
         return wrong == 0;
     }
 
-    void end() {
+    static void end() {
+        test = "";
         System.out.println(wrong == 0 ? looked + " answers are as due" : wrong + " of " + looked + " are not as due");
         if (wrong != 0 || looked == 0) {
             System.exit(1);
         }
     }
 
-    /** Tells a text letter by letter, and lets it become a land. */
-    static int tell(TaxedByLongest x, String text) {
-        for (int i = 0; i < text.length(); i++) {
-            x.letter(text.charAt(i));
+    /** Runs every test of a class, each of which has to look at something, and ends. */
+    static void run(Class<?> tests) throws ReflectiveOperationException {
+        for (Method method : testsOf(tests)) {
+            test = "promise " + method.getAnnotation(Says.class).promise() + ", " + method.getName() + ": ";
+            int before = looked;
+            try {
+                method.invoke(null);
+            } catch (InvocationTargetException thrown) {
+                holds("it threw " + thrown.getCause(), false);
+            }
+            holds("it looked at nothing", looked > before);
         }
-        return x.land();
+        end();
     }
 
-    static TaxedByLongest landOf(String text) {
-        TaxedByLongest x = new TaxedByLongest();
-        int answer = tell(x, text);
-        if (answer < 1) {
-            throw new IllegalStateException(text + " is no land: " + answer);
-        }
-        return x;
-    }
-
-    /** Tells a year as one digit a day; the days are there already. */
-    static void doAll(TaxedByLongest x, String year) {
-        for (int day = 0; day < year.length(); day++) {
-            if (x.does(day, year.charAt(day) - '0') < 0) {
-                throw new IllegalStateException("day " + day + " of " + year + " is refused");
+    /** By promises, and by names within one. */
+    static List<Method> testsOf(Class<?> tests) {
+        List<Method> found = new ArrayList<>();
+        for (Method method : tests.getDeclaredMethods()) {
+            if (method.isAnnotationPresent(Says.class)) {
+                method.setAccessible(true);
+                found.add(method);
             }
         }
-    }
-
-    static void row(TaxedByLongest x, String row) {
-        for (int i = 0; i < row.length(); i++) {
-            x.row(row.charAt(i) - '0');
-        }
+        found.sort(Comparator.comparing((Method m) -> m.getAnnotation(Says.class).promise()).thenComparing(Method::getName));
+        return found;
     }
 }

@@ -1,5 +1,4 @@
 import java.lang.reflect.Method;
-import java.util.HashMap;
 import java.util.Map;
 import java.util.Random;
 
@@ -7,9 +6,8 @@ import java.util.Random;
 public final class ModelTest {
     private static final int RUNS = 400;
     private static final int CALLS = 512;
-    private static final Check CHECK = new Check();
-    private static final Map<String, Method> FACE = methodsOf(TaxedByLongest.class);
-    private static final Map<String, Method> SLOW = methodsOf(Model.class);
+    private static final Map<String, Method> FACE = Run.faceOf(TaxedByLongest.class);
+    private static final Map<String, Method> SLOW = Run.faceOf(Model.class);
     private static final String[] NAMES = {
         "thing", "does", "does", "does", "bind", "bind", "done", "change", "law", "longest", "stretches", "stretch",
         "worth", "earned", "pays", "left", "allow", "best", "bestDay", "breaking", "more", "brought", "byLaw",
@@ -17,13 +15,13 @@ public final class ModelTest {
     };
 
     public static void main(String[] args) throws Exception {
-        for (int run = 0; run < RUNS && CHECK.isFaultless(); run++) {
+        for (int run = 0; run < RUNS && Check.isFaultless(); run++) {
             oneRun(run);
         }
         for (int run = 0; run < 150; run++) {
             allYearsRun(run);
         }
-        CHECK.end();
+        Check.end();
     }
 
     private static void oneRun(int run) throws Exception {
@@ -60,7 +58,7 @@ public final class ModelTest {
     private static void call(int run, Object[] both, String name, Object... args) throws Exception {
         long got = ((Number) FACE.get(name).invoke(both[0], args)).longValue();
         long want = ((Number) SLOW.get(name).invoke(both[1], args)).longValue();
-        CHECK.due("run " + run + ": " + name + java.util.Arrays.toString(args), got, want);
+        Check.due("run " + run + ": " + name + java.util.Arrays.toString(args), got, want);
     }
 
     private static Object[] arguments(String name, Random random) {
@@ -159,26 +157,16 @@ public final class ModelTest {
         for (int i = 0; i < random.nextInt(3); i++) {
             text.append('b').append(random.nextInt(days)).append(',').append(random.nextInt(things)).append(';');
         }
-        TaxedByLongest x = Check.landOf(text.toString());
+        Run x = Run.of(text.toString());
         Model model = new Model();
         text.chars().forEach(model::letter);
         model.land();
         for (int l = 1; l <= days + 1; l++) {
-            CHECK.due(text + " allow(" + l + ")", x.allow(l), model.allowByAllYears(l));
+            Check.due(text + " allow(" + l + ")", x.ask("allow(" + l + ")"), (long) model.allowByAllYears(l));
         }
         int[] year = model.bestYearByAllYears();
         for (int day = 0; day < days; day++) {
-            CHECK.due(text + " bestDay(" + day + ")", x.bestDay(day), year[day]);
+            Check.due(text + " bestDay(" + day + ")", x.ask("bestDay(" + day + ")"), (long) year[day]);
         }
-    }
-
-    private static Map<String, Method> methodsOf(Class<?> type) {
-        Map<String, Method> methods = new HashMap<>();
-        for (Method method : type.getDeclaredMethods()) {
-            if (java.lang.reflect.Modifier.isPublic(method.getModifiers())) {
-                methods.put(method.getName(), method);
-            }
-        }
-        return methods;
     }
 }
